@@ -33,6 +33,7 @@ public final class ForecastTest {
         Check.due("no day", x.count(0), 0);
         Check.due("no age", x.of(0, 5), 0);
         Check.due("no sand from store", x.count(3), 100);
+        Check.due("high(0, 100)", x.high(0, 100), 5);
         Check.due("high(15, 100)", x.high(15, 100), 5);
         Check.due("high(-1, 0)", x.high(-1, 0), Check.BEYOND);
         Check.due("high(16, 0)", x.high(16, 0), Check.BEYOND);
@@ -255,6 +256,12 @@ public final class ForecastTest {
         x.sand(3, 19);
         Check.due("in none", x.windFor(0, 0), Check.NONE);
         Check.due("wind is as it was", x.set(1, 1), 1);
+        x.set(2, 9);
+        x.change(0, 4, 1);
+        Check.due("in no wind, as it comes", x.windFor(0, 1), 0);
+        x.sand(2, 12);
+        x.sand(4, 12);
+        Check.due("in any wind, as it comes", x.windFor(0, 1), 5);
         Check.due("windFor(0, -1)", x.windFor(0, -1), Check.BEYOND);
         Check.due("windFor(0, 41)", x.windFor(0, 41), Check.BEYOND);
         Check.due("windFor(1, 0)", x.windFor(1, 0), Check.BEYOND);
@@ -330,6 +337,17 @@ public final class ForecastTest {
         Check.due("of two the least", x.away(2, 1), 1);
         Check.due("not the other two", x.away(1, 1), Check.NONE);
         agesAllTheSame();
+        allMayHaveToStayAway();
+    }
+
+    /** What is raised gets no sand from its neighbour, and sheds some; what is not is lifted by that neighbour. */
+    private static void allMayHaveToStayAway() {
+        SandLedger x = new SandLedger();
+        Check.pour(x, 10, 7);
+        x.set(2, 0);
+        x.visitor(0, 1);
+        x.change(0, 2, 1);
+        Check.due("the only one", x.away(0, 1), 1);
     }
 
     private static void agesAllTheSame() {
@@ -447,6 +465,20 @@ public final class ForecastTest {
         Check.due("its shape", x.cell(from, 0), 0);
         Check.due("built", x.of(visitor, 6), built + 1);
         Check.due("age grows by the day alone", x.of(visitor, 5), 62);
+        Check.due("z", x.count(6), second);
+        comersComeOnDaysOfComingsToo();
+    }
+
+    private static void comersComeOnDaysOfComingsToo() {
+        SandLedger x = new SandLedger();
+        x.visitor(5, 9);
+        x.change(0, 4, 1);
+        x.seed(3);
+        int second = drawn(drawn(3));
+        Check.due("nobody is drawn", (drawn(3) >>> 8) % 8 == 0 ? 1 : 0, 0);
+        x.comings(1);
+        Check.due("it came all the same", x.cell(9, 0), 6);
+        Check.due("its from stays", x.of(0, 1), 9);
         Check.due("z", x.count(6), second);
     }
 

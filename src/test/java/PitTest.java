@@ -16,6 +16,7 @@ public final class PitTest {
         promise9Slides();
         promise9DayLimit();
         promise10Now();
+        setsOfEightVisitors();
         Check.end("PitTest");
     }
 
@@ -360,6 +361,17 @@ public final class PitTest {
         x.go(1);
         Check.sandIs("five gusts", x, 5, 5, 5, 5, 5, 5, 10, 20, 10, 5, 5);
         x = new SandLedger();
+        x.set(1, 5);
+        x.sand(0, 30);
+        x.go(1);
+        Check.sandIs("five gusts at the first cell", x, 25, 10, 5, 5);
+        x = new SandLedger();
+        x.set(1, 5);
+        x.sand(15, 30);
+        x.go(1);
+        Check.due("five gusts at the last cell", x.cell(15, 0), 25);
+        Check.due("the cell ahead of it", x.cell(14, 0), 10);
+        x = new SandLedger();
         x.set(1, 0);
         Check.pour(x, 30, 0, 30);
         x.go(3);
@@ -391,11 +403,31 @@ public final class PitTest {
         Check.due("z", x.count(6), 1);
         x.change(0, 6, 7);
         Check.due("the last day stays", x.built(0, 12), 7 + 4);
+        x.image();
+        Check.due("go(9)", x.go(9), 16);
+        Check.due("the last day by go", x.count(0), 99999);
+        x.undo();
         Check.due("comings(9)", x.comings(9), 16);
         Check.due("the last day", x.count(0), 99999);
         Check.due("go(1)", x.go(1), Check.STATE);
         Check.due("comings(1)", x.comings(1), Check.STATE);
         Check.due("status(4)", x.status(4), 4);
+    }
+
+    private static void setsOfEightVisitors() {
+        SandLedger x = new SandLedger();
+        for (int v = 0; v < 8; v++) {
+            x.visitor(0, 7);
+            x.change(v, 3, 5 + v % 2);
+            x.change(v, 6, 1 + v);
+            x.change(v, 4, 2 + v % 3);
+        }
+        Check.due("eight stand, or not", x.now(4), 0b01010101);
+        Check.due("eight come", x.now(7), 0xff);
+        Check.due("eight built", x.now(6), 36);
+        Check.due("eight in a cell", x.cell(8, 1), 0xff);
+        x.go(3);
+        Check.due("on day 3", x.now(7), 0b10010010);
     }
 
     private static void promise10Now() {
@@ -425,6 +457,11 @@ public final class PitTest {
         Check.due("the longest road", x.now(1), 5);
         x.sand(13, 4);
         Check.due("a shorter road", x.now(1), 4);
+        for (int cell = 0; cell < 16; cell++) {
+            x.sand(cell, cell == 1 ? 4 : 3);
+        }
+        Check.due("no road", x.now(1), 0);
+        Check.due("the second is the highest", x.now(5), 1);
         Check.due("now(-1)", x.now(-1), Check.BEYOND);
         Check.due("now(8)", x.now(8), Check.BEYOND);
     }

@@ -5,6 +5,7 @@ public final class TextTest {
         promise29Wipe();
         promise30Items();
         promise30Faults();
+        promise30FullTapes();
         promise30NinthVisitor();
         promise30NothingChangesWithAFault();
         Check.end("TextTest");
@@ -146,6 +147,23 @@ public final class TextTest {
         fault("wet 3:", 5);
         fault("wet 3/", 5);
         fault("nobody #", 0);
+        fault("toy", 0);
+        fault("met 3", 0);
+        fault("find 3", 0);
+        fault("boy grom 3", 4);
+    }
+
+    /** A token or blanks that end with the last byte that the tape can have. */
+    private static void promise30FullTapes() {
+        fault(" ".repeat(120), 120);
+        fault("wet 3;" + " ".repeat(111) + "wet", 120);
+        fault("z".repeat(120), 0);
+        fault("9".repeat(120), 0);
+        fault("wet 3" + ";".repeat(115), 6);
+        Check.due("blanks", Check.read(new SandLedger(), "wet 3" + " ".repeat(115)), 1);
+        Check.due("zeros", Check.read(new SandLedger(), "wet " + "0".repeat(115) + "3"), 1);
+        Check.due("a word", Check.read(new SandLedger(), " ".repeat(117) + "boy"), 1);
+        Check.due("many items", Check.read(new SandLedger(), "wet1;".repeat(23) + "wet 7"), 24);
     }
 
     private static void promise30NinthVisitor() {
