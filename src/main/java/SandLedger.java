@@ -838,24 +838,24 @@ public final class SandLedger {
             return each > 0 && day % each == 0;
         }
 
+        /** Visitors of the set absent don't come, but grow older all the same. */
         void passDays(int n, int absent) {
             for (int i = 0; i < n; i++) {
-                passDay(absent);
+                for (int visitor = 0; visitor < visitors; visitor++) {
+                    if ((absent >> visitor & 1) == 0 && comesToday(visitor)) {
+                        receive(visitor);
+                    }
+                }
+                ageByADay();
+                blow();
+                day = Math.min(DAY_MOST, day + 1);
             }
         }
 
-        /** Visitors of the set absent don't come, but grow older all the same. */
-        void passDay(int absent) {
-            for (int visitor = 0; visitor < visitors; visitor++) {
-                if ((absent >> visitor & 1) == 0 && comesToday(visitor)) {
-                    receive(visitor);
-                }
-            }
+        void ageByADay() {
             for (int visitor = 0; visitor < visitors; visitor++) {
                 traits[AGE][visitor] = Math.min(TRAIT_MOST[AGE], traits[AGE][visitor] + 1);
             }
-            blow();
-            day = Math.min(DAY_MOST, day + 1);
         }
 
         void blow() {
@@ -1184,42 +1184,37 @@ public final class SandLedger {
             while (begin < tape.length && tape.bytes[begin] == ' ') {
                 begin++;
             }
-            end = begin;
-            if (begin >= tape.length) {
-                token = END;
-            } else if (isLetter(begin)) {
-                token = WORD;
-                readLetters();
-            } else if (isDigit(begin)) {
-                token = NUMBER;
-                readDigits();
-            } else {
-                token = tape.bytes[begin] == ';' ? SIGN : STRAY;
+            token = tokenAt(begin);
+            end = Math.min(begin + 1, tape.length);
+            while ((token == WORD || token == NUMBER) && end < tape.length && tokenAt(end) == token) {
                 end++;
+            }
+            if (token == NUMBER) {
+                readValue();
             }
         }
 
-        void readLetters() {
-            while (end < tape.length && isLetter(end)) {
-                end++;
+        /** What a token that begins there would be. */
+        int tokenAt(int place) {
+            if (place >= tape.length) {
+                return END;
             }
+            int sign = tape.bytes[place];
+            if (sign >= 'a' && sign <= 'z') {
+                return WORD;
+            }
+            if (sign >= '0' && sign <= '9') {
+                return NUMBER;
+            }
+            return sign == ';' ? SIGN : STRAY;
         }
 
         /** A value beyond NUMBER_MOST stays there, as so many digits would not fit into an int. */
-        void readDigits() {
+        void readValue() {
             value = 0;
-            while (end < tape.length && isDigit(end)) {
-                value = Math.min(NUMBER_MOST + 1, value * 10 + tape.bytes[end] - '0');
-                end++;
+            for (int place = begin; place < end; place++) {
+                value = Math.min(NUMBER_MOST + 1, value * 10 + tape.bytes[place] - '0');
             }
-        }
-
-        boolean isLetter(int place) {
-            return within(tape.bytes[place], 'a', 'z');
-        }
-
-        boolean isDigit(int place) {
-            return within(tape.bytes[place], '0', '9');
         }
     }
 }
