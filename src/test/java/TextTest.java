@@ -148,6 +148,10 @@ public final class TextTest {
         fault("wet 3/", 5);
         fault("nobody #", 0);
         fault("toy", 0);
+        fault("wetz 3", 0);
+        fault("weta 3", 0);
+        fault("awet 3", 0);
+        fault("zwet 3", 0);
         fault("met 3", 0);
         fault("find 3", 0);
         fault("boy grom 3", 4);
