@@ -11,6 +11,8 @@ import java.util.Random;
 public final class ModelTest {
     private static final int RUNS = 120;
     private static final int CALLS = 512;
+    /** Four bytes a call, and no drawn text has more than 308 bytes; then wipe() and text(). */
+    private static final int CALLS_OF_A_TEXT = 79;
     /** Calls that look ahead cost the plain model much, so most draws go to others. */
     private static final List<String> DEAR = List.of("stands", "road", "both", "empty", "fromFor", "away", "kindFor",
         "wideFor", "eachFor", "windFor", "fits", "kinds", "built", "high");
@@ -43,7 +45,7 @@ public final class ModelTest {
         Model model = new Model();
         int made = 0;
         while (made < CALLS) {
-            if (random.nextInt(40) == 0) {
+            if (random.nextInt(40) == 0 && made + CALLS_OF_A_TEXT <= CALLS) {
                 made += feedDrawnText(x, model, seed);
                 continue;
             }

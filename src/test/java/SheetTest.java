@@ -97,11 +97,13 @@ public final class SheetTest {
         Check.due("0 behind missing", x.cell(0, 0), 0);
     }
 
+    /** What a written number is, if it is 0 to 9999, else -1; an object a try, as it is promised for 512 calls. */
     private static int written(int bits, int v) {
-        SandLedger x = new SandLedger();
-        x.visitor(0, 0);
-        Check.fill(x, 0, bits, v);
         for (int built = 0; built <= 9999; built++) {
+            SandLedger x = new SandLedger();
+            x.visitor(0, 0);
+            x.sheet(0, bits, 1);
+            x.write(0, 0, v);
             x.change(0, 6, built);
             if (x.judge(0) == 0) {
                 return built;
