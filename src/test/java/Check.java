@@ -54,6 +54,20 @@ final class Check {
         }
     }
 
+    /** Sand of all cells becomes this. */
+    static void level(SandLedger x, int sand) {
+        for (int cell = 0; cell < 16; cell++) {
+            x.sand(cell, sand);
+        }
+    }
+
+    /** A visitor's kind, from, wide, high, each, age, built. */
+    static void traitsAre(String when, SandLedger x, int visitor, int... due) {
+        for (int what = 0; what < due.length; what++) {
+            due(when + ": of(" + visitor + ", " + what + ")", x.of(visitor, what), due[what]);
+        }
+    }
+
     static void sandIs(String when, SandLedger x, int... sand) {
         for (int i = 0; i < sand.length; i++) {
             due(when + ": sand of cell " + i, x.cell(i, 0), sand[i]);

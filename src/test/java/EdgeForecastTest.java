@@ -53,6 +53,7 @@ public final class EdgeForecastTest {
         promise24Behind0And20Days();
         promise24EmptyAndFullSets();
         promise25Edges();
+        promise25IsComeAndADay();
         promise25DrawsWrapAround();
         promise25VisitorsThereAndNot();
         promise25FirstAndLastCell();
@@ -73,12 +74,6 @@ public final class EdgeForecastTest {
         x.change(0, 3, high);
         x.change(0, 4, 9);
         return x;
-    }
-
-    private static void level(SandLedger x, int sand) {
-        for (int cell = 0; cell < 16; cell++) {
-            x.sand(cell, sand);
-        }
     }
 
     private static void sheetOf(SandLedger x, int s, int n, int number) {
@@ -186,10 +181,10 @@ public final class EdgeForecastTest {
 
     private static void promise14NoRoadAtAll() {
         SandLedger x = new SandLedger();
-        level(x, 4);
+        Check.level(x, 4);
         Check.due("promise 14: 0 or more", x.road(0), 0);
         Check.due("promise 14: 1 or more", x.road(1), Check.NONE);
-        level(x, 5);
+        Check.level(x, 5);
         Check.due("promise 14: 16 or more", x.road(16), 0);
     }
 
@@ -299,7 +294,7 @@ public final class EdgeForecastTest {
             x.visitor(kind, 15);
             x.change(0, 3, 10);
             Check.due("promise 17: least of kind " + kind, x.fromFor(0, 1), least[kind]);
-            level(x, 0);
+            Check.level(x, 0);
             Check.due("promise 17: none does better", x.fromFor(0, 0), 0);
         }
     }
@@ -617,6 +612,24 @@ public final class EdgeForecastTest {
     /** The next z told without ints that wrap around. */
     private static long next(long z) {
         return Math.floorMod(Math.floorMod(z, 1L << 32) * 1103515245L + 12345L, 1L << 32);
+    }
+
+    /** Those who come on that day come besides. */
+    private static void promise25IsComeAndADay() {
+        for (int seed = 0; seed < 40; seed++) {
+            SandLedger x = Scene.busy();
+            SandLedger byHand = Scene.busy();
+            x.seed(seed);
+            int road = x.comings(1);
+            byHand.seed((int) next(next(seed)));
+            int drawn = (int) (next(seed) / 256 % 8);
+            if (drawn < 7) {
+                byHand.change(drawn, 1, (int) (next(next(seed)) / 256 % 16));
+                byHand.come(drawn);
+            }
+            Check.due("promise 25: road, z " + seed, road, byHand.go(1));
+            Scene.same("promise 25: z " + seed, Scene.told(x), Scene.told(byHand));
+        }
     }
 
     private static void promise25DrawsWrapAround() {

@@ -69,12 +69,6 @@ public final class EdgePitTest {
         return x;
     }
 
-    private static void level(SandLedger x, int sand) {
-        for (int cell = 0; cell < 16; cell++) {
-            x.sand(cell, sand);
-        }
-    }
-
     private static void promise1NothingIsThereYet() {
         SandLedger x = new SandLedger();
         Check.due("promise 1: status", x.status(-1), 0);
@@ -188,10 +182,7 @@ public final class EdgePitTest {
     private static void promise5EighthAndNinth() {
         SandLedger x = Scene.busy();
         Check.due("promise 5: the eighth", x.visitor(BRIDE, 15), 7);
-        int[] first = {BRIDE, 15, 3, 8, 2, 0, 0};
-        for (int what = 0; what < first.length; what++) {
-            Check.due("promise 5: of the eighth " + what, x.of(7, what), first[what]);
-        }
+        Check.traitsAre("promise 5: the eighth", x, 7, BRIDE, 15, 3, 8, 2, 0, 0);
         Scene.refused("promise 5: the ninth", Scene::crowded, y -> y.visitor(0, 0), Check.FULL);
         Scene.refused("promise 5: the ninth bride", Scene::crowded, y -> y.visitor(6, 15), Check.FULL);
     }
@@ -314,7 +305,7 @@ public final class EdgePitTest {
             SandLedger x = with(kind, 6, 3);
             x.set(2, 3);
             x.change(0, 5, 30);
-            level(x, 30);
+            Check.level(x, 30);
             for (int cell = 0; cell < 16; cell++) {
                 boolean isIn = (x.of(0, 7) >> cell & 1) == 1;
                 x.sand(cell, raises[kind]);
@@ -326,13 +317,13 @@ public final class EdgePitTest {
         }
         SandLedger x = with(VISITOR, 6, 3);
         x.change(0, 3, 0);
-        level(x, 0);
+        Check.level(x, 0);
         Check.due("promise 6: high 0 always stands", x.of(0, 10), 1);
     }
 
     private static void promise6DiggersShapeStandsExactly() {
         SandLedger x = with(DIGGER, 14, 8);
-        level(x, 30);
+        Check.level(x, 30);
         x.sand(14, 0);
         x.sand(15, 1);
         Check.due("promise 6: one left at the last cell", x.of(0, 10), 0);
@@ -429,7 +420,7 @@ public final class EdgePitTest {
         Check.due("promise 8: nothing to move", x.come(0), 0);
         Check.due("promise 8: not built", x.of(0, 6), 0);
         Check.due("promise 8: no sand", x.count(2), 80);
-        level(x, 8);
+        Check.level(x, 8);
         Check.due("promise 8: nothing lacks", x.come(0), 0);
         Check.due("promise 8: built without a store", x.of(0, 6), 1);
     }
@@ -587,13 +578,28 @@ public final class EdgePitTest {
         Check.pour(x, 0, 30, 0, 0);
         x.go(1);
         Check.sandIs("promise 9: wind 5, wet 9", x, 5, 20, 5, 0);
+        for (int wind = 0; wind <= 5; wind++) {
+            x = new SandLedger();
+            x.set(1, wind);
+            x.set(2, 9);
+            x.sand(0, 30);
+            x.sand(15, 30);
+            x.go(1);
+            Check.due("promise 9: one in each gust from cell 0", x.cell(0, 0), 30 - wind);
+            Check.due("promise 9: one in each gust from cell 15", x.cell(15, 0), 30 - wind);
+        }
+        x = new SandLedger();
+        x.set(1, 5);
+        x.sand(0, 30);
+        x.go(1);
+        Check.due("promise 9: one alone in each gust", x.cell(0, 0), 25);
     }
 
     private static void promise9SlidesOnlyWhenMore() {
         for (int wet = 0; wet <= 9; wet++) {
             SandLedger x = new SandLedger();
             x.set(2, wet);
-            level(x, 4);
+            Check.level(x, 4);
             x.sand(0, 4 + wet + 2);
             x.sand(15, 4 + wet + 2);
             x.go(1);
@@ -614,16 +620,16 @@ public final class EdgePitTest {
         SandLedger x = new SandLedger();
         x.set(1, 5);
         x.set(2, 0);
-        level(x, 0);
+        Check.level(x, 0);
         x.sand(0, 30);
         x.sand(15, 30);
         x.go(60);
         Check.due("promise 9: all sand is there", x.count(2), 60);
         Check.due("promise 9: store", x.count(3), 100);
-        level(x, 30);
+        Check.level(x, 30);
         x.go(60);
         Check.due("promise 9: a full pit stays full", x.count(2), 16 * 30);
-        level(x, 0);
+        Check.level(x, 0);
         x.go(60);
         Check.due("promise 9: an empty pit stays empty", x.count(2), 0);
     }
@@ -631,15 +637,15 @@ public final class EdgePitTest {
     private static void promise9SlidesAllAtOnce() {
         SandLedger x = new SandLedger();
         x.set(2, 0);
-        level(x, 0);
+        Check.level(x, 0);
         Check.pour(x, 9, 6, 3, 0);
         x.go(1);
         Check.sandIs("promise 9: each gives one", x, 8, 6, 3, 1, 0);
-        level(x, 0);
+        Check.level(x, 0);
         Check.pour(x, 3, 0, 0);
         x.go(1);
         Check.sandIs("promise 9: what came goes no farther at once", x, 2, 1, 0, 0);
-        level(x, 0);
+        Check.level(x, 0);
         x.sand(13, 3);
         x.sand(14, 6);
         x.sand(15, 9);
@@ -648,7 +654,7 @@ public final class EdgePitTest {
         Check.due("promise 9: backwards, cell 14", x.cell(14, 0), 6);
         Check.due("promise 9: backwards, cell 13", x.cell(13, 0), 3);
         Check.due("promise 9: backwards, cell 12", x.cell(12, 0), 1);
-        level(x, 0);
+        Check.level(x, 0);
         x.sand(7, 4);
         x.go(1);
         Check.due("promise 9: to the next one first", x.cell(8, 0), 1);
@@ -666,7 +672,7 @@ public final class EdgePitTest {
         SandLedger x = new SandLedger();
         x.set(1, 5);
         x.set(2, 0);
-        level(x, 30);
+        Check.level(x, 30);
         x.sand(7, 27);
         x.go(1);
         Check.due("promise 9: between two full ones", x.cell(7, 0), 28);
@@ -729,7 +735,7 @@ public final class EdgePitTest {
 
     private static void promise10OfAnEmptyPit() {
         SandLedger x = new SandLedger();
-        level(x, 0);
+        Check.level(x, 0);
         x.set(0, 0);
         for (int what = 0; what <= 7; what++) {
             Check.due("promise 10: empty, what " + what, x.now(what), 0);
@@ -738,7 +744,7 @@ public final class EdgePitTest {
 
     private static void promise10OfAFullPit() {
         SandLedger x = new SandLedger();
-        level(x, 30);
+        Check.level(x, 30);
         x.set(0, 9999);
         x.set(1, 0);
         for (int visitor = 0; visitor < 8; visitor++) {
@@ -754,7 +760,7 @@ public final class EdgePitTest {
 
     private static void promise10RoadCountsFrom5On() {
         SandLedger x = new SandLedger();
-        level(x, 4);
+        Check.level(x, 4);
         Check.due("promise 10: 4 is no road", x.now(1), 0);
         x.sand(0, 5);
         Check.due("promise 10: the first cell", x.now(1), 1);
@@ -763,7 +769,7 @@ public final class EdgePitTest {
         Check.due("promise 10: the last cell", x.now(1), 1);
         x.sand(0, 5);
         Check.due("promise 10: the ends don't join", x.now(1), 1);
-        level(x, 5);
+        Check.level(x, 5);
         Check.due("promise 10: all", x.now(1), 16);
         x.sand(8, 4);
         Check.due("promise 10: the longer one", x.now(1), 8);
@@ -780,5 +786,9 @@ public final class EdgePitTest {
         Check.due("promise 10: of two the least", x.now(5), 14);
         x.sand(15, 7);
         Check.due("promise 10: the last", x.now(5), 15);
+        for (int cell = 0; cell < 16; cell++) {
+            x.sand(cell, 15 + cell);
+            Check.due("promise 10: each in its turn", x.now(5), cell);
+        }
     }
 }

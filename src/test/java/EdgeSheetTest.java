@@ -182,9 +182,7 @@ public final class EdgeSheetTest {
             x.sheet(0, bits, 40);
             for (int begin = 0; begin < 40; begin += 10) {
                 x.copy(0, begin, 0, 0, 10);
-                for (int cell = 0; cell < 16; cell++) {
-                    x.sand(cell, 5);
-                }
+                Check.level(x, 5);
                 x.load(0);
                 Check.due("promise 33: all are 0", x.count(2), 0);
             }
@@ -544,17 +542,13 @@ public final class EdgeSheetTest {
     private static void promise41EmptyAndFull() {
         SandLedger x = new SandLedger();
         x.set(1, 0);
-        for (int cell = 0; cell < 16; cell++) {
-            x.sand(cell, 0);
-        }
+        Check.level(x, 0);
         x.set(0, 0);
         x.seed(0);
         for (int what = 0; what <= 7; what++) {
             Check.due("promise 41: empty, what " + what, x.count(what), 0);
         }
-        for (int cell = 0; cell < 16; cell++) {
-            x.sand(cell, 30);
-        }
+        Check.level(x, 30);
         x.set(0, 9999);
         for (int visitor = 0; visitor < 8; visitor++) {
             x.visitor(0, 0);

@@ -12,6 +12,7 @@ public final class EdgeTextTest {
         promise30EndsTooEarly();
         promise30BlanksBetween();
         promise30PartsInTheirOrder();
+        promise30WithoutParts();
         promise30OtherWords();
         promise30EveryByteAlone();
         promise30EveryByteBehindAnItem();
@@ -148,18 +149,14 @@ public final class EdgeTextTest {
         bounds("wind ", 0, 5);
         bounds("wet ", 0, 9);
         SandLedger x = new SandLedger();
-        Check.due("promise 30: the most", Check.read(x, "bride from 15 wide 8 high 20 each 9;sand 15 30;store 9999;wind 5;wet 9"), 5);
-        int[] most = {6, 15, 8, 20, 9, 0, 0};
-        for (int what = 0; what < most.length; what++) {
-            Check.due("promise 30: the most of " + what, x.of(0, what), most[what]);
-        }
+        String most = "bride from 15 wide 8 high 20 each 9;sand 15 30;store 9999;wind 5;wet 9";
+        Check.due("promise 30: the most", Check.read(x, most), 5);
+        Check.traitsAre("promise 30: the most", x, 0, 6, 15, 8, 20, 9, 0, 0);
         Check.due("promise 30: sand 30", x.cell(15, 0), 30);
         Check.due("promise 30: store 9999", x.count(3), 9999);
-        Check.due("promise 30: the least", Check.read(x, "boy from 0 wide 1 high 0 each 1;sand 0 0;store 0;wind 0;wet 0"), 5);
-        int[] least = {3, 0, 1, 0, 1, 0, 0};
-        for (int what = 0; what < least.length; what++) {
-            Check.due("promise 30: the least of " + what, x.of(1, what), least[what]);
-        }
+        String least = "boy from 0 wide 1 high 0 each 1;sand 0 0;store 0;wind 0;wet 0";
+        Check.due("promise 30: the least", Check.read(x, least), 5);
+        Check.traitsAre("promise 30: the least", x, 1, 3, 0, 1, 0, 1, 0, 0);
         Check.due("promise 30: sand 0", x.cell(0, 0), 0);
         Check.due("promise 30: store 0", x.count(3), 0);
         Check.due("promise 30: wind 0", x.set(1, 1), 0);
@@ -172,8 +169,8 @@ public final class EdgeTextTest {
         items("store 09999", 1);
         items("store 00000000000000000000000000009999", 1);
         fault("store 010000", 6);
-        String[] wrapping = {"65536", "2147483647", "2147483648", "4294967295", "4294967296", "4294967297", "8589934592",
-            "18446744073709551616", "18446744073709551617", "340282366920938463463374607431768211456"};
+        String[] wrapping = {"65536", "2147483647", "2147483648", "4294967295", "4294967296", "4294967297",
+            "8589934592", "18446744073709551616", "18446744073709551617", "340282366920938463463374607431768211456"};
         for (String number : wrapping) {
             fault("store " + number, 6);
             fault("wind " + number, 5);
@@ -192,7 +189,8 @@ public final class EdgeTextTest {
             fault(text + "   ", text.length() + 3);
             fault("  " + text, text.length() + 2);
         }
-        String[] enough = {"visitor", "boy from 3", "boy wide 2", "boy high 1", "boy each 1", "sand 3 4", "store 3", "wind 3", "wet 3"};
+        String[] enough = {"visitor", "boy from 3", "boy wide 2", "boy high 1", "boy each 1", "sand 3 4",
+            "store 3", "wind 3", "wet 3"};
         for (String text : enough) {
             items(text, 1);
             items(text + ";" + text, 2);
@@ -241,6 +239,17 @@ public final class EdgeTextTest {
         fault("wet 3;;wet 3", 6);
     }
 
+    private static void promise30WithoutParts() {
+        String[] words = {"visitor", "child", "lover", "boy", "digger", "traveller", "bride"};
+        for (int kind = 0; kind <= 6; kind++) {
+            SandLedger x = new SandLedger();
+            x.go(3);
+            Check.due("promise 30: a " + words[kind] + " alone", Check.read(x, words[kind]), 1);
+            Check.traitsAre("promise 30: as at first", x, 0, kind, 0, 3, 8, 2, 0, 0);
+            Check.due("promise 30: nobody else", x.count(1), 1);
+        }
+    }
+
     private static void promise30OtherWords() {
         String[] words = {"visitor", "child", "lover", "boy", "digger", "traveller", "bride"};
         for (String word : words) {
@@ -249,6 +258,8 @@ public final class EdgeTextTest {
             fault(word.substring(1), 0);
             fault(word + "s", 0);
             fault("a" + word, 0);
+            fault("q" + word.substring(1), 0);
+            fault(word.substring(0, word.length() - 1) + "q", 0);
             fault(word.toUpperCase(), 0);
             fault(word.substring(0, 1) + word.substring(1).toUpperCase(), 0);
         }
@@ -261,6 +272,7 @@ public final class EdgeTextTest {
             fault(word + " 3", 0);
             fault("boy " + word.substring(0, word.length() - 1) + " 3", 4);
             fault("boy " + word + "s 3", 4);
+            fault("boy q" + word.substring(1) + " 3", 4);
         }
         fault("san 3 4", 0);
         fault("sands 3 4", 0);
@@ -362,7 +374,8 @@ public final class EdgeTextTest {
 
     private static void promise30ItemByItem() {
         SandLedger x = new SandLedger();
-        Check.due("promise 30: again and again", Check.read(x, "sand 3 9;sand 3 8;wet 3;wet 4;store 5;store 6;wind 2;wind 3"), 8);
+        String again = "sand 3 9;sand 3 8;wet 3;wet 4;store 5;store 6;wind 2;wind 3";
+        Check.due("promise 30: again and again", Check.read(x, again), 8);
         Check.due("promise 30: the latest sand", x.cell(3, 0), 8);
         Check.due("promise 30: the latest wet", x.set(2, 0), 4);
         Check.due("promise 30: the latest store", x.set(0, 0), 6);
@@ -373,8 +386,8 @@ public final class EdgeTextTest {
     }
 
     private static void promise30FaultChangesNothingButTheTape() {
-        String[] faulty = {"", "x", "bride from 3 wide 4 high 5 each 6;x", "sand 0 9;sand 15 9;", "store 7;wind 3;wet 7;wet 10",
-            "boy;boy", "boy from 4 each 10"};
+        String[] faulty = {"", "x", "bride from 3 wide 4 high 5 each 6;x", "sand 0 9;sand 15 9;",
+            "store 7;wind 3;wet 7;wet 10", "boy;boy", "boy from 4 each 10"};
         for (String text : faulty) {
             SandLedger x = Scene.busy();
             x.wipe();

@@ -105,10 +105,7 @@ public final class PitTest {
             Check.due("visitor", x.visitor(v % 7, 15 - v), v);
         }
         for (int v = 0; v < 8; v++) {
-            int[] due = {v % 7, 15 - v, 3, 8, 2, 0, 0};
-            for (int what = 0; what < due.length; what++) {
-                Check.due("of a new visitor " + what, x.of(v, what), due[what]);
-            }
+            Check.traitsAre("a new visitor", x, v, v % 7, 15 - v, 3, 8, 2, 0, 0);
         }
         Check.due("visitor(0, 0)", x.visitor(0, 0), Check.FULL);
         Check.due("beyond is asked first", x.visitor(7, 0), Check.BEYOND);
@@ -125,10 +122,7 @@ public final class PitTest {
         }
         x.undo();
         Check.due("visitor again", x.visitor(1, 2), 0);
-        int[] due = {1, 2, 3, 8, 2, 0, 0};
-        for (int what = 0; what < due.length; what++) {
-            Check.due("of a visitor behind undo " + what, x.of(0, what), due[what]);
-        }
+        Check.traitsAre("a visitor behind undo", x, 0, 1, 2, 3, 8, 2, 0, 0);
     }
 
     private static void promise6Of() {

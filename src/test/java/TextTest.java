@@ -50,12 +50,7 @@ public final class TextTest {
         SandLedger x = new SandLedger();
         Check.due("all kinds", Check.read(x, "visitor;child;lover;boy;digger;traveller;bride"), 7);
         for (int kind = 0; kind < 7; kind++) {
-            int[] order = {0, 1, 2, 3, 4, 5, 6};
-            Check.due("kind", x.of(kind, 0), order[kind]);
-            Check.due("from", x.of(kind, 1), 0);
-            Check.due("wide", x.of(kind, 2), 3);
-            Check.due("high", x.of(kind, 3), 8);
-            Check.due("each", x.of(kind, 4), 2);
+            Check.traitsAre("all kinds", x, kind, kind, 0, 3, 8, 2, 0, 0);
         }
         Check.due("tape is empty", x.count(5), 0);
         x = new SandLedger();
