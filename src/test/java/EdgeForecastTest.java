@@ -38,6 +38,7 @@ public final class EdgeForecastTest {
         promise20LeastAndLastKind();
         promise21Edges();
         promise21GreatestAndLeast();
+        promise21BrideMovesLessInWind();
         promise21Behind0And40Days();
         promise22Edges();
         promise22NobodyAndEverybody();
@@ -435,6 +436,27 @@ public final class EdgeForecastTest {
         Check.due("promise 21: wind is as it was", heap(30).set(1, 0), 0);
         Scene.refused("promise 21: none", () -> heap(19), x -> x.windFor(0, 1), Check.NONE);
         Check.due("promise 21: no more than 5", heap(30).windFor(0, 0), 5);
+    }
+
+    /** A bride on cells 7 and 8, which are to be 12 high, in a pit where nothing slides. */
+    private static SandLedger bride(int sand, int next) {
+        SandLedger x = new SandLedger();
+        x.set(2, 9);
+        Check.level(x, 12);
+        x.sand(7, sand);
+        x.sand(8, next);
+        x.visitor(6, 7);
+        x.change(0, 2, 1);
+        x.change(0, 3, 20);
+        return x;
+    }
+
+    private static void promise21BrideMovesLessInWind() {
+        for (int lacks = 7; lacks <= 12; lacks++) {
+            Check.due("promise 21: a bride, " + lacks + " lack", bride(12 - lacks, 12).windFor(0, 1), 12 - lacks);
+        }
+        Check.due("promise 21: a bride, 6 lack", bride(6, 12).windFor(0, 1), 5);
+        Check.due("promise 21: a bride, 13 lack", bride(0, 11).windFor(0, 1), Check.NONE);
     }
 
     private static void promise21Behind0And40Days() {
