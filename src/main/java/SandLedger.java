@@ -70,8 +70,8 @@ public final class SandLedger {
     private final Pit kept = new Pit();
     /** What will be is tried out here, so that no call makes a new pit. */
     private final Pit trial = new Pit();
-    private final Tape tape = new Tape();
-    private final TextReader reader = new TextReader(tape);
+    private final TextReader reader = new TextReader();
+    private final Tape tape = reader.tape;
     private final Sheet[] sheets = new Sheet[SHEETS];
     private final int[] findings = new int[FINDINGS];
     private boolean isKept;
@@ -1047,15 +1047,11 @@ public final class SandLedger {
         static final int STRAY = 4;
         static final int NUMBER_MOST = 9999;
 
-        final Tape tape;
+        final Tape tape = new Tape();
         int token;
         int begin;
         int end;
         int value;
-
-        TextReader(Tape tape) {
-            this.tape = tape;
-        }
 
         /** How many items, all carried out in the pit, or -1 less the fault, when the pit is of no more use. */
         int readText(Pit pit) {
